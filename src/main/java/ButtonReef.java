@@ -1200,7 +1200,6 @@ public final class ButtonReef {
 
         void empty() {
             length = 0;
-            position = 0;
         }
 
         void rewind() {
@@ -1209,7 +1208,7 @@ public final class ButtonReef {
 
         /** -1 if there is a syntax error. */
         int countCommands() {
-            position = 0;
+            rewind();
             for (int count = 1; count <= INPUT_LIMIT; count++) {
                 if (!readCommand()) {
                     return -1;

@@ -396,6 +396,8 @@ public final class PromiseTests {
             {2, "a#a"},
             {1, "abc", "..d", "bca"},
             {2, ".......a", "a......."},
+            {2, "a......a", "a......."},
+            {2, ".......a", "a......a"},
             {1, "aaaaaaaa", "a......a", "a.aaaa.a", "a.a..a.a", "a.aa.a.a", "a....a.a", "aaaaaa.a", ".......a"},
             {2, "a.a.a.a.", "a.a.a.a.", "aaa.aaa.", "", "", "", "", ""},
             {1, "a.a.a.a.", "a.a.a.a.", "aaa.aaa.", "a.....a.", "aaaaaaa.", "", "", ""},
@@ -408,6 +410,8 @@ public final class PromiseTests {
             String before = Look.data(reef);
             Check.same("islandCount() of reef " + i, reefs[i][0], reef.islandCount());
             Check.same("islandCountByMerging() of reef " + i, reefs[i][0], reef.islandCountByMerging());
+            Check.same("islandCount() of reef " + i + " once more", reefs[i][0], reef.islandCount());
+            Check.same("islandCount() of reef " + i + " a third time", reefs[i][0], reef.islandCount());
             Check.same("the data", before, Look.data(reef));
         }
     }

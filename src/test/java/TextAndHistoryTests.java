@@ -193,6 +193,8 @@ public final class TextAndHistoryTests {
         for (String text : texts) {
             Check.fails(text, BAD_STATE, () -> Look.run(reef, text));
             Check.same("after " + text, before, everything(reef));
+            Check.same("commands without a cell after " + text, 2, Look.run(reef, "rule slow;tide 1"));
+            reef.undo();
         }
     }
 
