@@ -81,7 +81,9 @@ public final class FaceTests {
         }
         for (Class<?> inside : ButtonReef.class.getDeclaredClasses()) {
             for (Method method : inside.getDeclaredMethods()) {
-                Check.same("an inside method " + method.getName(), false, names.contains(method.getName()));
+                boolean isPrivate = Modifier.isPrivate(method.getModifiers());
+                Check.same("a private method inside, " + method.getName(), false,
+                    isPrivate && names.contains(method.getName()));
             }
         }
     }
