@@ -238,6 +238,10 @@ public final class CellEdgeTests {
         Check.same("remove of the last button", 0, reef.remove(0, 2));
         Check.same("removedCount()", 3, reef.removedCount());
         Check.same("bleachedCount()", 0, reef.bleachedCount());
+        Reef pale = Look.reef("a##b#");
+        Check.same("remove of a living button among bleached ones", 1, pale.remove(0, 0));
+        Check.same("remove of a bleached button among bleached ones", 1, pale.remove(0, 1));
+        Check.same("remove of the last living button", 0, pale.remove(0, 3));
     }
 
     private static void removeWithoutSuchACell() {

@@ -17,6 +17,7 @@ public final class HistoryEdgeTests {
         promise54();
         promise55();
         exceptions();
+        upToThe512thCall();
         Check.end();
     }
 
@@ -564,5 +565,31 @@ public final class HistoryEdgeTests {
                 Look.data(reef) + Look.history(reef) + Look.saved(reef) + Look.written(reef));
             Edges.isEmptyInput("after '" + text + "'", reef);
         }
+    }
+
+    // ---- the greatest number of calls
+
+    private static void upToThe512thCall() {
+        Check.begin("\"An object is used for at most 512 calls after it has been made\"");
+        Reef tides = Reef.fresh();
+        for (int call = 1; call <= 510; call++) {
+            tides.passTides(20);
+        }
+        Check.fails("call 511", Edges.REJECTED, () -> tides.setRule('c'));
+        Check.same("call 512", 10200, tides.rejectionDetail());
+        Reef placed = Reef.fresh();
+        for (int call = 1; call <= 511; call += 2) {
+            Check.same("call " + call, 1, placed.place(call % 8, call / 8 % 8, 'a'));
+            Check.same("call " + (call + 1), call < 511 ? 0 : 256,
+                call < 511 ? placed.remove(call % 8, call / 8 % 8) : placed.placedCount());
+        }
+        Reef undone = Look.reef("a");
+        for (int call = 2; call <= 503; call++) {
+            undone.recolour(0, 0, Look.COLOURS.charAt(call % 4));
+        }
+        for (int left = UNDO_LIMIT - 1; left >= 0; left--) {
+            Check.same("the last of the calls but " + left, left, undone.undo());
+        }
+        Check.same("call 512", 'd', undone.colourAt(0, 0));
     }
 }

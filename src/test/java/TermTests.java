@@ -172,6 +172,13 @@ public final class TermTests {
         Check.same("the first and the last row, merged", 2, rim.islandCountByMerging());
         Check.same("the first and the last row, of a colour", 2, rim.islandsOf('a'));
         Check.same("the size of the first row", 8, rim.islandSize(0, 0));
+        Reef sides = Look.reef("a......a", "a......a", "a......a", "a......a", "a......a", "a......a", "a......a", "a......a");
+        Check.same("the first and the last column", 2, sides.islandCount());
+        Check.same("the first and the last column, merged", 2, sides.islandCountByMerging());
+        Check.same("the first and the last column, of a colour", 2, sides.islandsOf('a'));
+        Check.same("the size of the last column", 8, sides.islandSize(0, 7));
+        Check.same("the largest of both", 8, sides.largestIsland());
+        Check.same("the first column and the last", false, sides.isJoined(1, 0, 0, 7));
     }
 
     private static void areTwoIslands(int row, int column, int otherRow, int otherColumn) {
