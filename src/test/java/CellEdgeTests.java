@@ -1,3 +1,6 @@
+import java.util.ArrayList;
+import java.util.List;
+
 /** Promises 1 to 18: each boundary case that a sentence of them names. */
 public final class CellEdgeTests {
     private static final int[] CORNER_ROWS = {0, 0, 7, 7};
@@ -27,6 +30,7 @@ public final class CellEdgeTests {
         newReefHasTheCalmRule();
         newReefHasNoHistory();
         newReefsAreApart();
+        twoReefsInTurnAreApart();
     }
 
     private static void promise2() {
@@ -135,6 +139,87 @@ public final class CellEdgeTests {
         Edges.lived();
         Check.same("another reef", before, Look.all(other));
         Check.same("a later reef", before, Look.all(Reef.fresh()));
+    }
+
+    private interface Call {
+        Object run(Reef reef);
+    }
+
+    private static void twoReefsInTurnAreApart() {
+        Check.begin("promise 1, each object for itself, call by call in turn");
+        List<Call> calls = life('l', 'b', 's', "rule busy;place 77 d", "tide 1;rule slow", "tide 1;tidy");
+        List<Call> otherCalls = life('q', 'c', 'b', "place 00 a;bleach 00", "bleach 77;tide 1", "tide 1;rude");
+        List<Object> due = answers(Reef.fresh(), calls);
+        List<Object> otherDue = answers(Reef.fresh(), otherCalls);
+        Check.same("the number of calls of one and of the other", due.size(), otherDue.size());
+        Reef reef = Reef.fresh();
+        Reef other = Reef.fresh();
+        for (int i = 0; i < due.size(); i++) {
+            Check.same("call " + i + " of one", due.get(i), answer(reef, calls.get(i)));
+            Check.same("call " + i + " of the other", otherDue.get(i), answer(other, otherCalls.get(i)));
+        }
+    }
+
+    /** Calls that keep something in all that a reef can keep, and ask for it. */
+    private static List<Call> life(char pattern, char colour, char rule, String taken, String rejected, String wrong) {
+        List<Call> calls = new ArrayList<>();
+        calls.add(reef -> reef.plant(3, 2, pattern, colour));
+        calls.add(reef -> reef.place(pattern % 8, 0, colour));
+        calls.add(Reef::saveSnapshot);
+        calls.add(reef -> reef.passTides(pattern % 3 + 1));
+        calls.add(reef -> reef.plant(5, 2, pattern, colour));
+        calls.add(reef -> reef.plant(pattern % 7, 2, 'x', 'a'));
+        type(calls, taken);
+        calls.add(Reef::execute);
+        calls.add(reef -> reef.setRule(rule));
+        type(calls, rejected);
+        calls.add(Reef::writeRule);
+        askAll(calls);
+        calls.add(Reef::execute);
+        askAll(calls);
+        type(calls, wrong);
+        calls.add(Reef::execute);
+        calls.add(reef -> reef.remove(5, 3));
+        askAll(calls);
+        for (int i = 0; i < 3; i++) {
+            calls.add(Reef::undo);
+            calls.add(reef -> reef.writeRow(5));
+            askAll(calls);
+        }
+        calls.add(Reef::restoreSnapshot);
+        calls.add(reef -> reef.writeRow(3));
+        askAll(calls);
+        return calls;
+    }
+
+    private static void type(List<Call> calls, String text) {
+        for (char sign : text.toCharArray()) {
+            calls.add(reef -> reef.appendInput(sign));
+        }
+    }
+
+    private static void askAll(List<Call> calls) {
+        for (int i = 0; i < 8; i++) {
+            int index = i;
+            calls.add(reef -> reef.outputAt(index));
+        }
+        calls.addAll(List.of(Reef::livingCount, Reef::bleachedCount, Reef::rule, Reef::tideCount, Reef::placedCount,
+            Reef::removedCount, Reef::bornCount, Reef::bleachings, Reef::washedCount, Reef::islandCount,
+            Reef::islandCountByMerging, Reef::largestIsland, Reef::tidesUntilStill, Reef::meanAge,
+            reef -> reef.livingAfter(3), reef -> reef.rowByLiving(0), reef -> reef.colourByCount(0)));
+        calls.addAll(List.of(Reef::rejectionReason, Reef::rejectionDetail, Reef::causeReason, Reef::syntaxErrorOffset));
+    }
+
+    private static List<Object> answers(Reef reef, List<Call> calls) {
+        List<Object> found = new ArrayList<>();
+        for (Call call : calls) {
+            found.add(answer(reef, call));
+        }
+        return found;
+    }
+
+    private static Object answer(Reef reef, Call call) {
+        return Check.outcome(() -> call.run(reef));
     }
 
     // ---- promise 2

@@ -34,6 +34,7 @@ public final class TermTests {
     private static void islands() {
         sideBySideWithACommonSide();
         connectedByAChain();
+        chainsRoundACorner();
         coloursDoNotMatterForIslands();
         bleachedButtonsAreInNoIsland();
     }
@@ -268,6 +269,41 @@ public final class TermTests {
         Check.same("islandCount of a comb", 1, comb.islandCount());
         Check.same("islandCountByMerging of a comb", 1, comb.islandCountByMerging());
         Check.same("two of its teeth", true, comb.isJoined(0, 0, 0, 6));
+    }
+
+    /** An island that comes round to a button which it touches at a corner alone, turned and mirrored. */
+    private static void chainsRoundACorner() {
+        Check.begin("\"every two are connected by a chain of buttons that are side by side\", not at a corner");
+        int[][] hook = {{0, 2}, {1, 2}, {2, 2}, {2, 1}};
+        int[] alone = {1, 0};
+        for (int turn = 0; turn < 8; turn++) {
+            for (int start : new int[] {0, 5, 26, 40, 45}) {
+                Reef reef = Reef.fresh();
+                for (int[] cell : hook) {
+                    reef.place(start / 8 + turned(cell, turn)[0], start % 8 + turned(cell, turn)[1], 'a');
+                }
+                int row = start / 8 + turned(alone, turn)[0];
+                int column = start % 8 + turned(alone, turn)[1];
+                int hookRow = start / 8 + turned(hook[0], turn)[0];
+                int hookColumn = start % 8 + turned(hook[0], turn)[1];
+                reef.place(row, column, 'a');
+                String what = " of turn " + turn + " at " + start;
+                Check.same("islandCount" + what, 2, reef.islandCount());
+                Check.same("islandCountByMerging" + what, 2, reef.islandCountByMerging());
+                Check.same("islandsOf" + what, 2, reef.islandsOf('a'));
+                Check.same("islandSize of the one alone" + what, 1, reef.islandSize(row, column));
+                Check.same("islandSize of the hook" + what, 4, reef.islandSize(hookRow, hookColumn));
+                Check.same("largestIsland" + what, 4, reef.largestIsland());
+                Check.same("isJoined" + what, false, reef.isJoined(row, column, hookRow, hookColumn));
+            }
+        }
+    }
+
+    /** One of the eight ways in which three rows of three cells can be turned and mirrored. */
+    private static int[] turned(int[] cell, int turn) {
+        int row = turn % 2 == 0 ? cell[0] : 2 - cell[0];
+        int column = turn / 2 % 2 == 0 ? cell[1] : 2 - cell[1];
+        return turn < 4 ? new int[] {row, column} : new int[] {column, row};
     }
 
     private static void coloursDoNotMatterForIslands() {

@@ -302,6 +302,7 @@ public final class TideEdgeTests {
         Check.same("a lonely button in the last cell", false, Look.reef("", "", "", "", "", "", "", ".......a").isStill());
         Check.same("a pair", false, Look.reef("aa").isStill());
         Check.same("four", true, Look.reef("aa", "aa").isStill());
+        Check.same("64 living buttons", false, Edges.full('a').isStill());
     }
 
     private static void stillWithoutAWashing() {
@@ -310,6 +311,8 @@ public final class TideEdgeTests {
         Check.same("one in the last cell", false, Look.reef("", "", "", "", "", "", "", ".......#").isStill());
         Check.same("a bleached button beside four", true, Look.reef("aa#", "aa").isStill());
         Check.same("a bleached button apart from four", false, Look.reef("aa.#", "aa").isStill());
+        Check.same("64 bleached buttons", false, Edges.full('#').isStill());
+        Check.same("64 bleached buttons are still after one tide", 1, Edges.full('#').tidesUntilStill());
     }
 
     private static void stillThoughAgesChange() {
